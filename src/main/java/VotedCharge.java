@@ -553,8 +553,8 @@ public final class VotedCharge {
         private void loseStuck(Unit unit) {
             votes = unit.votes;
             for (int i = 0; i < SENSORS; i++) {
-                boolean isSame = unit.sameFor[i] > 0 && unit.readings[i] == readings[i];
-                sameFor[i] = isSame ? unit.sameFor[i] + 1 : 1;
+                // A counting that starts anew is at 0, so it becomes 1 whatever the latest reading was.
+                sameFor[i] = unit.readings[i] == readings[i] ? unit.sameFor[i] + 1 : 1;
                 if (sameFor[i] >= unit.settings[STUCK]) {
                     votes = without(votes, i);
                 }

@@ -11,6 +11,7 @@ public final class WhatIfTest {
         leastReadingIsTheFirstOfAll();
         ticksTo();
         ticksToAtItsBound();
+        ticksToFromBelow();
         nothingChanges();
         Due.end();
     }
@@ -150,53 +151,49 @@ public final class WhatIfTest {
         Due.is("a wrong reading of a fired stage", unit.ticksTo(0, 501), -2);
     }
 
+    /** The bound is met ahead of 50 ticks: STUCK is 50 at most, and so in the tick 50 no sensor has a vote. */
     private static void ticksToAtItsBound() {
         VotedCharge unit = new VotedCharge();
         unit.set(VotedCharge.STUCK, 50);
         unit.set(VotedCharge.DELAY, 20);
         Due.is("behind 41 ticks", unit.ticksTo(2, 500), 41);
-        unit = new VotedCharge();
+        unit.set(VotedCharge.HIGH, 1);
+        unit.set(VotedCharge.LOW, 53);
+        Due.is("10, 18, 25, 31, 37, 42, 46, 50, 53", unit.ticksTo(0, 10), 9);
+        Due.is("20 behind that", unit.ticksTo(1, 10), 29);
+        Due.is("20 behind that, too", unit.ticksTo(2, 10), 49);
+        unit.set(VotedCharge.LOW, 54);
+        Due.is("one later", unit.ticksTo(1, 10), 30);
+        Due.is("stuck in the tick 50", unit.ticksTo(2, 10), -6);
+        unit.set(VotedCharge.LOW, 53);
+        unit.set(VotedCharge.STUCK, 49);
+        Due.is("stuck in the tick 49", unit.ticksTo(2, 10), -6);
         unit.set(VotedCharge.STUCK, 50);
-        Calls.tickAll(unit, -500, true);
-        unit.bar(0, true);
-        unit.set(VotedCharge.LOW, 40);
-        Due.is("a stuck sensor does not fire in the tick in which it is stuck", unit.ticksTo(1, 0), -6);
-        unit = new VotedCharge();
-        unit.set(VotedCharge.STUCK, 50);
-        unit.set(VotedCharge.DELAY, 20);
-        unit.set(VotedCharge.LOW, 37);
-        unit.set(VotedCharge.HIGH, 37);
-        int ticks = 0;
-        int speed = 0;
-        while (speed < 37) {
-            speed = speed * 7 / 8 + 6;
-            ticks++;
-        }
-        Due.is("a slow rise", unit.ticksTo(0, 6), ticks);
-        Due.is("and 40 ticks more", unit.ticksTo(2, 6), ticks + 40 < 50 ? ticks + 40 : -6);
-        fiftyTicks();
+        Calls.tickAll(unit, 10, false);
+        Due.is("one is behind it", unit.ticksTo(1, 10), 28);
+        Due.is("one is behind it, and stuck in the same tick as ever", unit.ticksTo(2, 10), 48);
     }
 
-    /** Sensors that have to forget a great speed below 0 first, for as many ticks as are looked at. */
-    private static void fiftyTicks() {
+    /** Sensors that have to forget a great speed below 0 first. */
+    private static void ticksToFromBelow() {
         for (int first = -500; first <= 0; first++) {
             VotedCharge unit = new VotedCharge();
             unit.set(VotedCharge.STUCK, 50);
             unit.set(VotedCharge.DELAY, 20);
             unit.set(VotedCharge.LOW, 61);
             Calls.tickAll(unit, first, true);
-            int speed = first < -4 ? first : 0;
-            int due = -6;
-            for (int tick = 1; tick < 50; tick++) {
-                speed = speed * 7 / 8 + 10;
-                if (speed >= 61) {
-                    due = tick;
-                    break;
-                }
-            }
+            int due = risingTo(61, first < -4 ? first : 0, 10);
             Due.is("behind a tick of " + first, unit.ticksTo(0, 10), due);
-            Due.is("the next stage, behind " + first, unit.ticksTo(1, 10), due > 0 && due + 20 < 50 ? due + 20 : -6);
+            Due.is("the next stage, behind " + first, unit.ticksTo(1, 10), due + 20 < 50 ? due + 20 : -6);
         }
+    }
+
+    private static int risingTo(int low, int from, int reading) {
+        int ticks = 0;
+        for (int speed = from; speed < low; ticks++) {
+            speed = speed * 7 / 8 + reading;
+        }
+        return ticks;
     }
 
     private static void nothingChanges() {
