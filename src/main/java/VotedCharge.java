@@ -259,7 +259,16 @@ public final class VotedCharge {
             return TOO_MANY;
         }
         remember();
-        int fired = passPad();
+        Reader reader = pad.reader;
+        int fired = 0;
+        reader.begin();
+        for (int i = 0; i < pad.length; i++) {
+            if (pad.characters[i] == ';') {
+                fired |= passRead(reader);
+            }
+            reader.accept(pad.characters[i]);
+        }
+        fired |= passRead(reader);
         pad.length = 0;
         return fired;
     }
@@ -371,20 +380,7 @@ public final class VotedCharge {
         return next.fired;
     }
 
-    /** Lets the ticks of a pad without a fault pass; answers the stages that fire. */
-    private int passPad() {
-        Reader reader = pad.reader;
-        int fired = 0;
-        reader.begin();
-        for (int i = 0; i < pad.length; i++) {
-            if (pad.characters[i] == ';') {
-                fired |= passRead(reader);
-            }
-            reader.accept(pad.characters[i]);
-        }
-        return fired | passRead(reader);
-    }
-
+    /** Lets the tick pass that a reader has come to the end of; answers the stages that fire. */
     private int passRead(Reader reader) {
         return pass(now, reader.readings[0], reader.readings[1], reader.readings[2], reader.isClosed);
     }
