@@ -290,10 +290,9 @@ final class ChangeSentences {
             Due.is("the counting stays, too", unit.sensor(sensor, 3), 3);
         }
         Due.is("ticks", unit.count(0), 4);
-        changes(document, new VotedCharge(), -1);
         unit = new VotedCharge();
         unit.service();
-        Due.is("of a new unit, too", unit.count(15), 1);
+        changes(document, unit, 0);
         document.sentence("Returns how many stages were fired.");
         Due.is("none", unit.service(), 0);
         unit.set(VotedCharge.DELAY, 0);

@@ -183,7 +183,6 @@ final class TickSentences {
 
     private static void middleOfFewer(Document document) {
         document.sentence("the lesser one of two, the only one of one, 0 of none.");
-        int[] readings = {-30, 10, 70};
         int[] due = {0, -30, 10, -30, 70, -30, 10};
         int[] dueTurned = {0, 30, -10, -10, -70, -70, -70};
         for (int votes = 0; votes < 7; votes++) {
@@ -194,7 +193,7 @@ final class TickSentences {
             Due.is("of the greatest", unit.ifTick(500, 500, 500, true, 1), votes == 0 ? 100000 : 100500);
             Due.is("of the least", unit.ifTick(-500, -500, -500, true, 1), votes == 0 ? 100000 : 99500);
         }
-        Due.is("three", new VotedCharge().ifTick(readings[0], readings[1], readings[2], true, 1), 100010);
+        Due.is("three", new VotedCharge().ifTick(-30, 10, 70, true, 1), 100010);
     }
 
     private static void far(Document document) {

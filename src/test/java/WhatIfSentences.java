@@ -203,8 +203,10 @@ final class WhatIfSentences {
         document.sentence("NONE if it would not be behind 50 ticks.");
         Due.is("behind 49", stuckInTheFiftieth(53).ticksTo(2, 10), 49);
         Due.is("in the tick 50 all are stuck", stuckInTheFiftieth(54).ticksTo(2, 10), -6);
-        Due.is("behind 50, with readings that were others once", rising(50).ticksTo(2, 10), -6);
-        VotedCharge unit = new VotedCharge();
+        VotedCharge unit = stuckInTheFiftieth(53);
+        Calls.tickAll(unit, -5, true);
+        Due.is("a tick of another reading ahead of them makes it 50", unit.ticksTo(2, 10), -6);
+        unit = new VotedCharge();
         unit.bar(0, true);
         Due.is("barred", unit.ticksTo(0, 500), -6);
         unit.bar(1, true);
@@ -221,13 +223,6 @@ final class WhatIfSentences {
         unit.set(VotedCharge.DELAY, 20);
         unit.set(VotedCharge.HIGH, 1);
         unit.set(VotedCharge.LOW, low);
-        return unit;
-    }
-
-    private static VotedCharge rising(int stuck) {
-        VotedCharge unit = stuckInTheFiftieth(54);
-        unit.set(VotedCharge.STUCK, stuck);
-        Calls.tickAll(unit, -5, true);
         return unit;
     }
 }
