@@ -5,7 +5,9 @@ import java.lang.reflect.Method;
 import java.lang.reflect.Modifier;
 import java.nio.file.Files;
 import java.nio.file.Path;
+import java.util.ArrayList;
 import java.util.Arrays;
+import java.util.List;
 import java.util.Set;
 import java.util.TreeSet;
 import java.util.regex.Matcher;
@@ -26,6 +28,7 @@ public final class FaceTest {
         constants();
         methods();
         members();
+        sizes();
         words();
         Due.end();
     }
@@ -94,6 +97,24 @@ public final class FaceTest {
         }
     }
 
+    private static void sizes() {
+        List<Class<?>> classes = new ArrayList<>(Arrays.asList(VotedCharge.class.getDeclaredClasses()));
+        classes.add(VotedCharge.class);
+        Due.is("classes: " + classes.size() + ", at most 12", classes.size() <= 12 ? 1 : 0, 1);
+        for (Class<?> each : classes) {
+            int fields = 0;
+            for (Field field : each.getDeclaredFields()) {
+                boolean isStatic = Modifier.isStatic(field.getModifiers());
+                fields += isStatic ? 0 : 1;
+                Due.is(field + " is final or not static", !isStatic || Modifier.isFinal(field.getModifiers()) ? 1 : 0, 1);
+            }
+            Due.is(each + " has " + fields + " fields, at most 20", fields <= 20 ? 1 : 0, 1);
+            for (Method method : each.getDeclaredMethods()) {
+                Due.is(method + " takes at most seven parameters", method.getParameterCount() <= 7 ? 1 : 0, 1);
+            }
+        }
+    }
+
     private static void words() throws IOException {
         Path program = Path.of("src", "main", "java", "VotedCharge.java");
         String source = Files.readString(program).replaceAll("(?s)/\\*.*?\\*/", " ").replaceAll("//[^\n]*", " ");
@@ -102,5 +123,6 @@ public final class FaceTest {
             Matcher matcher = Pattern.compile(edge + Pattern.quote(word)).matcher(source);
             Due.is("the program has the word " + word, matcher.find() ? 1 : 0, 0);
         }
+        Due.is("signs above 127", source.chars().filter(sign -> sign > 127).count(), 0);
     }
 }

@@ -22,6 +22,7 @@ public final class ModelTest {
             for (int call = 0; call < CALLS && Due.wrong() == 0; call++) {
                 test.callOne("run " + run + ", call " + call + ": ");
             }
+            test.lookAtAll("run " + run + ", at its end: ");
         }
         Due.end();
     }
@@ -127,6 +128,18 @@ public final class ModelTest {
         } else {
             int what = member(16);
             Due.is(where + "count(" + what + ")", unit.count(what), model.count(what));
+        }
+    }
+
+    private void lookAtAll(String where) {
+        for (int what = -1; what <= 16; what++) {
+            Due.is(where + "count(" + what + ")", unit.count(what), model.count(what));
+            for (int number = -1; number <= 12; number++) {
+                String call = "(" + number + ", " + what + ")";
+                Due.is(where + "sensor" + call, unit.sensor(number, what), model.sensor(number, what));
+                Due.is(where + "stage" + call, unit.stage(number, what), model.stage(number, what));
+                Due.is(where + "record" + call, unit.record(number, what), model.record(number, what));
+            }
         }
     }
 
